@@ -661,7 +661,7 @@ public final class SpringOaths {
     }
 
     public int act(int shelf, int act, int x) {
-        acting.count = 0;
+        acting.forget();
         if (!isShelf(shelf) || !isWithin(act, ACTS - 1) || !holdsPerson(shelf)) {
             return 0;
         }
@@ -1244,7 +1244,6 @@ public final class SpringOaths {
         }
 
         private void readName(String name) {
-            skipBlanks();
             if (isHere(name)) {
                 place += name.length();
             } else {
@@ -1273,7 +1272,7 @@ public final class SpringOaths {
             }
         }
 
-        /** Whether the next NAME, as long as it goes, is a told one. */
+        /** Skips blanks, and tells whether the NAME there, as long as it goes, is a told one. */
         private boolean isHere(String name) {
             skipBlanks();
             int end = place + name.length();
@@ -1349,7 +1348,7 @@ public final class SpringOaths {
             kind = personKind;
             sense = personSense;
             parted = false;
-            count = 0;
+            forget();
             int answer = run(own(wanted), x, 0);
             return parted ? PARTED_BY_ZERO : answer;
         }
@@ -1390,6 +1389,10 @@ public final class SpringOaths {
                 return 0;
             }
             return x / (sense - number);
+        }
+
+        void forget() {
+            count = 0;
         }
 
         private void note(int body) {

@@ -86,6 +86,15 @@ public final class CellTest {
         Check.due("ends(7)", x.ends(7), 7);
         Check.due("ends(15)", x.ends(15), 7);
         Check.due("ends(31)", x.ends(31), 31);
+        SpringOaths y = new SpringOaths();
+        y.height(0, 3);
+        y.height(1, 4);
+        Check.due("ends in cell 0", y.ends(2), 0);
+        Check.due("cell 0 is a hollow, who goes there isn't", y.wets(2) & 7, 1);
+        y.height(0, 4);
+        y.height(1, 3);
+        y.height(2, 2);
+        Check.due("through cell 1", y.ends(0), 2);
         Check.due("ends(-1)", x.ends(-1), BAD);
         Check.due("ends(32)", x.ends(32), BAD);
     }

@@ -79,6 +79,9 @@ public final class SheetTest {
         Check.due("it stays", x.item(0, 2, 39), 7);
         Check.due("anew", x.sheet(0, 2, 40), 1);
         Check.due("all 0", x.item(0, 2, 39), 0);
+        x.put(0, 0, 8);
+        x.sheet(0, 2, 40);
+        Check.due("all 0, the first too", x.item(0, 2, 0), 0);
         Check.due("n 0", x.sheet(0, 2, 0), 1);
         Check.due("none in it", x.item(0, 2, 0), -12);
         Check.due("missing, n counts nothing", x.sheet(0, -1, 99), 1);
@@ -123,6 +126,9 @@ public final class SheetTest {
     private static void shelf() {
         SpringOaths x = new SpringOaths();
         x.person(0, 0, 0, 0);
+        for (int shelf = 0; shelf < 4; shelf++) {
+            Check.due("nothing at first", x.taken(shelf, 0), -11);
+        }
         Check.due("shelf 4", x.shelf(4, 0, 0), BAD);
         Check.due("shelf -1", x.shelf(-1, 2, 0), BAD);
         Check.due("what 3", x.shelf(0, 3, 0), BAD);

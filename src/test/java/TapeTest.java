@@ -12,6 +12,7 @@ public final class TapeTest {
         faults();
         faultsOfNumbers();
         faultsAtTheEnd();
+        olderBytes();
         ninthPerson();
         refusedText();
         Check.end("TapeTest");
@@ -98,6 +99,7 @@ public final class TapeTest {
         x.act(0, 1, 5);
         x.prove(0, 4);
         x.keep();
+        x.seed(4321);
         Check.due("moor", Check.moor(x, ""), 0);
         Check.due("many(0)", x.many(0), 0);
         Check.due("lawOf(0)", x.lawOf(0), 2);
@@ -108,12 +110,13 @@ public final class TapeTest {
         Check.due("state(0)", x.state(0), 0);
         Check.due("many(4)", x.many(4), 0);
         Check.due("row(0, 0)", x.row(0, 0), -9);
-        Check.due("seed", x.seed(1), 1234);
+        Check.due("seed", x.seed(1), 4321);
         Check.due("item", x.item(1, 2, 2), 0);
         Check.due("taken, one that is gone", x.taken(0, 0), -11);
         Check.due("taken, a row", x.taken(1, 12), 3);
         Check.due("many(6)", x.many(6), 3);
         Check.due("again()", x.again(), 1);
+        Check.due("seed", x.seed(1), 1234);
         Check.due("taken, one that is back", x.taken(0, 0), 0);
     }
 
@@ -181,6 +184,9 @@ public final class TapeTest {
         fault("swornat 3;", 0);
         fault("swor at 3;", 0);
         fault("sworns at 3;", 0);
+        fault("swornz at 3;", 0);
+        fault("sworn ata 3;", 6);
+        fault("sworn at z3;", 9);
         fault("sworn  att 3;", 7);
         fault("sworn 3;", 6);
         fault("sworn at at 3;", 9);
@@ -248,6 +254,27 @@ public final class TapeTest {
         fault(full.toString(), 200);
         full.setLength(199);
         Check.due("a full tape", Check.moor(new SpringOaths(), full + ";"), 1);
+    }
+
+    /** What an earlier and longer TEXT left on the tape isn't read. */
+    private static void olderBytes() {
+        SpringOaths x = new SpringOaths();
+        Check.due("older letters", Check.moor(x, "swornsworn"), -100);
+        Check.due("the end", Check.moor(x, "sworn"), -105);
+        Check.due("older digits", Check.moor(x, "bog 1234"), -104);
+        Check.due("the end", Check.moor(x, "bog 123"), -104);
+        Check.due("the end", Check.moor(x, "bog 12"), -106);
+        Check.due("older sign", Check.moor(x, "bog 1;"), 0);
+        Check.due("the end", Check.moor(x, "bog 1"), -105);
+        Check.due("older blanks", Check.moor(x, "bog 1;     "), 0);
+        Check.due("law", x.lawOf(2), 1);
+        StringBuilder full = new StringBuilder();
+        while (full.length() < 195) {
+            full.append(' ');
+        }
+        Check.due("a name at the very end", Check.moor(x, full + "sworn"), -300);
+        Check.due("a number at the very end", Check.moor(x, full + "bog 1"), -300);
+        Check.due("a part of a name at the very end", Check.moor(x, full + "heigh"), -295);
     }
 
     private static void ninthPerson() {

@@ -11,6 +11,7 @@ public final class TriedTest {
     public static void main(String[] args) {
         level();
         damp();
+        inTheLastYear();
         loss();
         drowned();
         whereFor();
@@ -66,6 +67,24 @@ public final class TriedTest {
         y.water(1, 0);
         Check.due("one a year, damp(0)", y.damp(0), 10);
         Check.due("damp(1)", y.damp(1), NONE);
+    }
+
+    /** A spring of one a year at cell 0: what is above BOG 50 goes to cell 1, by one in each year from the 52nd on. */
+    private static void inTheLastYear() {
+        SpringOaths x = new SpringOaths();
+        x.set(0, 1);
+        x.set(2, 50);
+        x.height(0, 9);
+        x.person(3, 0, 0, 0);
+        x.person(0, 0, 0, 1);
+        x.water(0, 1);
+        Check.due("level(1, 59)", x.level(1, 59), 9);
+        Check.due("level(1, 60)", x.level(1, 60), 10);
+        Check.due("damp in the last year", x.damp(1), 60);
+        Check.due("drowned in the last year", x.drowned(), 60);
+        x.water(0, 0);
+        Check.due("damp a year later", x.damp(1), NONE);
+        Check.due("drowned a year later", x.drowned(), NONE);
     }
 
     private static void loss() {
@@ -139,6 +158,14 @@ public final class TriedTest {
         x.water(3, 10);
         Check.due("already wet", x.annoyed(0, 3, 1), 0);
         Check.due("sure stays", x.of(0, 2), 0);
+        x.water(3, 3);
+        x.mind(0, 0, 4);
+        x.person(0, 0, 69, 3);
+        Check.due("wells, and disagrees, with 99 alone", x.annoyed(0, 3, 1), 99);
+        x.sure(1, 68);
+        Check.due("with 98", x.annoyed(0, 3, 1), 98);
+        x.sure(1, 70);
+        Check.due("with none", x.annoyed(0, 3, 1), NONE);
     }
 
     private static void needed() {
@@ -176,6 +203,19 @@ public final class TriedTest {
         x.mind(2, 0, 0);
         Check.due("two who disagree", x.fewest(0, 1), 10);
         Check.due("by none", x.fewest(1, 1), NONE);
+        SpringOaths y = new SpringOaths();
+        y.water(5, 2);
+        for (int i = 0; i < 8; i++) {
+            Check.due("by no " + i, y.fewest(5, 1), NONE);
+            y.person(0, 1, 50, 5);
+        }
+        Check.due("by all eight", y.fewest(5, 1), 255);
+        y.water(5, 3);
+        Check.due("by seven", y.fewest(5, 1), 127);
+        y.mind(0, 0, 0);
+        Check.due("by the other seven", y.fewest(5, 1), 254);
+        y.mind(3, 0, 0);
+        Check.due("by none", y.fewest(5, 1), NONE);
     }
 
     private static void fits() {

@@ -213,11 +213,12 @@ public final class YearsTest {
         x.water(1, 10);
         int z = 1;
         int want = 0;
-        for (int i = 0; i < 30; i++) {
+        for (int i = 1; i <= 30; i++) {
             z = z * 1103515245 + 12345;
             boolean first = (z >>> 16) % 3 == 0;
             z = z * 1103515245 + 12345;
             want += first && (z >>> 16) % 100 < 99 ? 1 : 0;
+            Check.due("revel(" + i + ")", x.revel(i), want);
         }
         Check.due("revel(30)", x.revel(30), want);
         Check.holds("some but not all revel", want > 0 && want < 30);
