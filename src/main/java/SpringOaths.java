@@ -62,7 +62,6 @@ public final class SpringOaths {
     private static final int SORTS = 4;
     private static final int BYTES = 0;
     private static final int SHORTS = 1;
-    private static final int INTS = 2;
     private static final int MISSING = -1;
     private static final int ITEMS_MOST = 40;
     private static final int ANY = -1;
@@ -78,7 +77,6 @@ public final class SpringOaths {
     private static final int SWEARS = 0;
     private static final int DOUBTS = 1;
     private static final int PARTS = 2;
-    private static final int SIGNS = 3;
     /** The body that a thing of a KIND (by 4) runs for an ACT, if it isn't called by super. */
     private static final int[] BODIES = {
         10, 11, 12, 13,
@@ -796,7 +794,6 @@ public final class SpringOaths {
         switch (sort) {
             case BYTES: return (byte) v;
             case SHORTS: return (short) v;
-            case INTS: return v;
             default: return v;
         }
     }
