@@ -1345,7 +1345,6 @@ public final class SpringOaths {
             kind = personKind;
             sense = personSense;
             parted = false;
-            forget();
             int answer = run(own(wanted), x, 0);
             return parted ? PARTED_BY_ZERO : answer;
         }

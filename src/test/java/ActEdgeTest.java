@@ -114,6 +114,9 @@ public final class ActEdgeTest {
         act(dowser, 1, 10, -22 - 12, 41, 11, 40, 30, 10, 40, 30, 10);
         act(dowser, 2, 10, 3, 12);
         act(dowser, 3, 10, (-34 ^ 9) - 0, 31, 13, 41, 11, 40, 30, 10, 40, 30, 10, 12);
+        act(thing(EXPERT, 2, 5), 0, 12, 18 ^ 2, 51, 10);
+        act(thing(DOUBTER, 3, 4), 3, 10, (10 + 9 + 1 - 4 ^ 9) - 3, 31, 13, 11, 30, 10, 12);
+        act(thing(DOWSER, 3, 1), 3, 10, (-20 - 1 - 11 ^ 9) + 1, 31, 13, 41, 11, 40, 30, 10, 40, 30, 10, 12);
         SpringOaths drunkard = thing(DRUNKARD, 2, 5);
         act(drunkard, 0, 10, 16, 10);
         act(drunkard, 1, 10, 11, 11, 10);

@@ -209,6 +209,10 @@ public final class CellEdgeTest {
         Check.due("one step", x.ends(30), 31);
         Check.due("the pit", x.ends(31), 31);
         Check.due("further off", x.ends(29), 29);
+        x.height(0, 0);
+        Check.due("to cell 0", x.ends(1), 0);
+        Check.due("to cell 0", x.ends(8), 0);
+        Check.due("in cell 0", x.ends(0), 0);
     }
 
     /** From HEIGHT 9 to HEIGHT 0 by nine steps. */

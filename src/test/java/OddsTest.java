@@ -13,8 +13,8 @@ public final class OddsTest {
     }
 
     private static void odds() {
-        SpringOaths x = new SpringOaths();
         for (int drink = 0; drink <= 99; drink++) {
+            SpringOaths x = new SpringOaths();
             x.set(3, drink);
             for (int n = 0; n <= 8; n++) {
                 for (int k = 0; k <= n; k++) {
@@ -30,6 +30,7 @@ public final class OddsTest {
                 }
             }
         }
+        SpringOaths x = new SpringOaths();
         x.set(3, 0);
         Check.due("0 is 0 by 1", x.odds(8, 3, 0), 0);
         Check.due("0 is 0 by 1", x.odds(8, 3, 1), 1);

@@ -29,6 +29,7 @@ public final class RefusalTest {
         refusedTape();
         actPartedByZero();
         askingChangesNothing();
+        askedInAnyOrder();
         whatIsTakenIsSeen();
         Check.end("RefusalTest");
     }
@@ -503,6 +504,40 @@ public final class RefusalTest {
         unchanged("fewest(9, 20)", x -> x.fewest(9, 20));
         unchanged("fits(0, 9, 0, 0)", x -> x.fits(0, 9, 0, 0));
         unchanged("hope(99, 1)", x -> x.hope(99, 1));
+    }
+
+    /** "What is asked here is TRIED; nothing changes": each answers the same behind any other. */
+    private static void askedInAnyOrder() {
+        List<Moors.Call> calls = List.of(x -> x.level(9, 7), x -> x.damp(10), x -> x.loss(0), SpringOaths::drowned,
+            x -> x.whereFor(0, 9, 4), x -> x.kindFor(0, 9, 4), x -> x.annoyed(0, 9, 4), x -> x.needed(9, 4),
+            x -> x.fewest(9, 4), x -> x.fits(0, 9, 0, 0), x -> x.revel(30), x -> x.judge(1), x -> x.prove(1, 2),
+            x -> x.years(1), SpringOaths::year);
+        for (Supplier<SpringOaths> made : List.<Supplier<SpringOaths>>of(Moors::some, Moors::full, RefusalTest::marsh)) {
+            for (int second = 0; second < calls.size(); second++) {
+                long due = calls.get(second).of(made.get());
+                // all but the last three, which change something
+                for (int first = 0; first < calls.size() - 3; first++) {
+                    SpringOaths x = made.get();
+                    calls.get(first).of(x);
+                    Check.due("call " + second + " behind call " + first, calls.get(second).of(x), due);
+                }
+            }
+        }
+    }
+
+    /** Everybody counts: six at a cell that is nearly wet. */
+    private static SpringOaths marsh() {
+        SpringOaths x = new SpringOaths();
+        for (int i = 0; i < 6; i++) {
+            x.person(i, 3, 60 - 31 * (i % 2), 9);
+        }
+        x.water(9, 2);
+        x.height(9, 6);
+        x.set(2, 1);
+        x.sheet(0, 0, 1);
+        x.put(0, 0, x.level(9, 1));
+        x.prove(1, 2);
+        return x;
     }
 
     private static void seen(String call, Moors.Call asked) {

@@ -49,7 +49,7 @@ final class Seen {
     private void people() {
         int many = x.many(0);
         for (int person = 0; person < many; person++) {
-            for (int what = 0; what < 4; what++) {
+            for (int what = 0; what < 5; what++) {
                 sees(x.of(person, what));
             }
         }
@@ -101,6 +101,7 @@ final class Seen {
         sees(x.seed(3));
         sees(x.moor());
         few();
+        people();
     }
 
     private void kept() {
@@ -119,6 +120,9 @@ final class Seen {
         }
         for (int law = 0; law < 4; law++) {
             sees(x.lawOf(law));
+        }
+        for (int cell = 0; cell < 12; cell++) {
+            sees(x.level(cell, 2));
         }
     }
 }

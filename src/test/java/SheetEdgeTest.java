@@ -19,6 +19,7 @@ public final class SheetEdgeTest {
         mindsFromTheEnd();
         mindsOfNobody();
         mindsInOrder();
+        shelvesAtFirst();
         shelfRanges();
         shelfHoldsOne();
         shelfHoldsARow();
@@ -282,6 +283,18 @@ public final class SheetEdgeTest {
         Check.due("sheet 4", x.minds(4, 0, 0, 0), BAD);
         Check.due("sheet -1", x.minds(-1, 0, 0, 0), BAD);
         Check.due("sure stays", x.of(0, 2), 50);
+    }
+
+    /** "Nothing (at first)", also when somebody has come since. */
+    private static void shelvesAtFirst() {
+        SpringOaths x = new SpringOaths();
+        x.person(0, 0, 0, 0);
+        x.sheet(0, 0, 1);
+        for (int shelf = 0; shelf < 4; shelf++) {
+            Check.due("taken(" + shelf + ", 0)", x.taken(shelf, 0), -11);
+            Check.due("taken(" + shelf + ", 10)", x.taken(shelf, 10), -11);
+            Check.due("act(" + shelf + ", 0, 5)", x.act(shelf, 0, 5), 0);
+        }
     }
 
     private static void shelfRanges() {

@@ -12,6 +12,7 @@ public final class TapeEdgeTest {
         rangesOfPeople();
         rangesOfLaws();
         digits();
+        eachLetter();
         asLongAsTheyGo();
         blanks();
         otherBytes();
@@ -169,6 +170,31 @@ public final class TapeEdgeTest {
         fault("sworn at 0003;", 9);
         fault("bog 00000000000000000000007;", 4);
         fault("bog 4294967303;", 4);
+    }
+
+    /** A NAME is told by each of its letters: another one, one more, one less is no such NAME. */
+    private static void eachLetter() {
+        String[] texts = {"sworn at 3;", "engineer at 3;", "doubter at 3;", "expert at 3;", "dowser at 3;",
+            "drunkard at 3;", "height 3 is 4;", "water 3 is 4;", "spring 3;", "seep 3;", "bog 3;", "drink 3;",
+            "sworn at 3 sure 4;", "sworn at 3 sense 4;"};
+        for (String text : texts) {
+            moor(text, text.contains(" at ") ? 1 : 0);
+            int begin = 0;
+            for (int i = 0; i < text.length(); i++) {
+                char c = text.charAt(i);
+                if (c < 'a' || c > 'z') {
+                    begin = i + 1;
+                } else {
+                    String before = text.substring(0, i);
+                    String behind = text.substring(i + 1);
+                    char next = (char) (c == 'z' ? 'a' : c + 1);
+                    fault(before + next + behind, begin);
+                    fault(before + (char) (c - 'a' + 'A') + behind, begin);
+                    fault(before + c + c + behind, begin);
+                    fault(before + behind, begin);
+                }
+            }
+        }
     }
 
     /** "Both as long as they go": letters and digits end one another. */

@@ -29,6 +29,7 @@ public final class TriedEdgeTest {
         neededLess();
         neededOfSeveral();
         neededRanges();
+        nobodyStaysLeftOut();
         fewestNobody();
         fewestOfSeveral();
         fewestAll();
@@ -204,6 +205,8 @@ public final class TriedEdgeTest {
             Check.due("where for " + cell, x.whereFor(0, cell, 9), cell);
         }
         Check.due("n 20", x.whereFor(0, 31, 20), 31);
+        x.set(0, 1);
+        Check.due("one is more than none", x.whereFor(0, 31, 1), 31);
         Check.due("n 0", x.whereFor(0, 0, 0), BAD);
         Check.due("n 21", x.whereFor(0, 0, 21), BAD);
         Check.due("cell 32", x.whereFor(0, 32, 1), BAD);
@@ -358,6 +361,26 @@ public final class TriedEdgeTest {
         Check.due("cell 31", x.needed(31, 1), NONE);
         Check.due("cell 32", x.needed(32, 1), BAD);
         Check.due("cell -1", x.needed(-1, 1), BAD);
+    }
+
+    /** Who was left out, as it was tried, is there again: now, by a TEXT and by what is kept. */
+    private static void nobodyStaysLeftOut() {
+        SpringOaths x = new SpringOaths();
+        x.person(SWORN, 9, 99, 3);
+        x.keep();
+        Check.due("needed", x.needed(3, 1), 0);
+        Check.due("it wells", x.of(0, 4), 9);
+        Check.due("level", x.level(3, 1), 9);
+        Check.due("needed", x.needed(3, 1), 0);
+        Check.due("by a text", Check.moor(x, "sworn at 3 sense 8;"), 1);
+        Check.due("it wells", x.of(0, 4), 8);
+        Check.due("level", x.level(3, 1), 8);
+        Check.due("by no set", x.fewest(3, 1), NONE);
+        Check.due("needed", x.needed(3, 1), 0);
+        Check.due("again", x.again(), 1);
+        Check.due("it wells", x.of(0, 4), 9);
+        x.years(1);
+        Check.due("water", x.cell(3, 0), 9);
     }
 
     /** WET without anybody: the set of nobody, 0. */

@@ -1,3 +1,5 @@
+import java.util.function.Supplier;
+
 /**
  * Promises 22 to 30, and 32: what is tried. Besides told moors, moors by numbers that follow from one another
  * are asked, and the answers are found again by the plainer calls.
@@ -272,68 +274,65 @@ public final class TriedTest {
         return (drawn >>> 16) % below;
     }
 
-    private static void moorByNumbers() {
+    private static int near(int corner) {
+        return corner + draw(3) + 8 * draw(2);
+    }
+
+    /** The same moor for the same number: an object is asked no more than 512 times. */
+    private static SpringOaths moorBy(int number, int people, int corner) {
+        int before = drawn;
+        drawn = number;
         SpringOaths x = new SpringOaths();
-        int people = 1 + draw(8);
-        int corner = draw(3) * 8 + draw(6);
         for (int i = 0; i < people; i++) {
-            x.person(draw(6), draw(10), draw(100), corner + draw(3) + 8 * draw(2));
+            x.person(draw(6), draw(10), draw(100), near(corner));
         }
         for (int i = 0; i < 10; i++) {
-            x.height(corner + draw(3) + 8 * draw(2), draw(10));
+            x.height(near(corner), draw(10));
         }
         x.set(0, draw(10));
         x.set(1, draw(10));
         x.set(2, draw(30));
         x.years(1 + draw(3));
-        x.keep();
-        int cell = corner + draw(3) + 8 * draw(2);
-        int person = draw(people);
-        int n = 1 + draw(20);
-        firstTimes(x, cell, person);
-        bestCell(x, person, cell, n);
-        bestKind(x, person, cell, n);
-        leastSure(x, person, cell, n);
-        withoutSome(x, people, cell, n);
-        fitting(x, person, cell, n);
+        drawn = before;
+        return x;
     }
 
-    private static void firstTimes(SpringOaths x, int cell, int person) {
+    private static void moorByNumbers() {
+        int number = draw(65536);
+        int people = 1 + draw(8);
+        int corner = draw(3) * 8 + draw(6);
+        Supplier<SpringOaths> made = () -> moorBy(number, people, corner);
+        int cell = near(corner);
+        int person = draw(people);
+        int n = 1 + draw(20);
+        firstTimes(made, cell, person);
+        bestCell(made.get(), person, cell, n);
+        bestKind(made.get(), person, cell, n);
+        leastSure(made.get(), person, cell, n);
+        withoutSome(made, people, cell, n);
+        fitting(made.get(), person, cell, n);
+    }
+
+    private static void firstTimes(Supplier<SpringOaths> made, int cell, int person) {
+        SpringOaths x = made.get();
+        SpringOaths lived = made.get();
         int damp = NONE;
         int loss = NONE;
         int drowned = NONE;
         for (int n = 0; n <= 60; n++) {
-            Check.due("level by " + n + ", tried by years", x.cell(cell, 0), levelFromKept(x, cell, n));
-            passFromKept(x, n);
-            damp = damp < 0 && x.cell(cell, 0) >= 10 ? n : damp;
-            loss = loss < 0 && x.of(person, 6) == 1 ? n : loss;
-            drowned = drowned < 0 && (x.wets(1) & ~x.wets(0)) == 0 ? n : drowned;
-            if (n < 60) {
-                passFromKept(x, n + 1);
-            }
+            Check.due("level by " + n + ", tried by years", x.level(cell, n), lived.cell(cell, 0));
+            damp = damp < 0 && lived.cell(cell, 0) >= 10 ? n : damp;
+            loss = loss < 0 && lived.of(person, 6) == 1 ? n : loss;
+            drowned = drowned < 0 && (lived.wets(1) & ~lived.wets(0)) == 0 ? n : drowned;
+            lived.years(1);
         }
-        x.again();
         Check.due("damp", x.damp(cell), damp);
         Check.due("loss", x.loss(person), loss);
         Check.due("drowned", x.drowned(), drowned);
     }
 
-    private static void passFromKept(SpringOaths x, int n) {
-        x.again();
-        if (n > 0) {
-            x.years(n);
-        }
-    }
-
-    /** Leaves x n YEARS behind what is kept. */
-    private static int levelFromKept(SpringOaths x, int cell, int n) {
-        x.again();
-        int level = x.level(cell, n);
-        passFromKept(x, n);
-        return level;
-    }
-
     private static void bestCell(SpringOaths x, int person, int cell, int n) {
+        int at = x.of(person, 3);
         int best = -1;
         int most = -1;
         for (int where = 0; where < 32; where++) {
@@ -341,31 +340,34 @@ public final class TriedTest {
             int level = x.level(cell, n);
             best = level > most ? where : best;
             most = Math.max(level, most);
-            x.again();
         }
+        x.bring(person, at);
         Check.due("whereFor", x.whereFor(person, cell, n), best);
     }
 
     private static void bestKind(SpringOaths x, int person, int cell, int n) {
+        int own = x.of(person, 0);
+        int sense = x.of(person, 1);
         int best = -1;
         int most = -1;
         for (int kind = 0; kind < 6; kind++) {
-            x.mind(person, kind, x.of(person, 1));
+            x.mind(person, kind, sense);
             int level = x.level(cell, n);
             best = level > most ? kind : best;
             most = Math.max(level, most);
-            x.again();
         }
+        x.mind(person, own, sense);
         Check.due("kindFor", x.kindFor(person, cell, n), best);
     }
 
     private static void leastSure(SpringOaths x, int person, int cell, int n) {
+        int own = x.of(person, 2);
         int least = NONE;
         for (int v = 99; v >= 0; v--) {
             x.sure(person, v);
             least = x.level(cell, n) >= 10 ? v : least;
         }
-        x.again();
+        x.sure(person, own);
         Check.due("annoyed", x.annoyed(person, cell, n), least);
     }
 
@@ -377,39 +379,39 @@ public final class TriedTest {
                 x.sure(i, 0);
             }
         }
-        int level = x.level(cell, n);
-        x.again();
-        return level;
+        return x.level(cell, n);
     }
 
-    private static void withoutSome(SpringOaths x, int people, int cell, int n) {
+    private static void withoutSome(Supplier<SpringOaths> made, int people, int cell, int n) {
         int all = (1 << people) - 1;
         int needed = NONE;
-        int least = x.level(cell, n);
+        int least = made.get().level(cell, n);
         for (int i = 0; i < people; i++) {
-            int level = levelOf(x, all & ~(1 << i), people, cell, n);
+            int level = levelOf(made.get(), all & ~(1 << i), people, cell, n);
             needed = level < least ? i : needed;
             least = Math.min(level, least);
         }
-        Check.due("needed", x.needed(cell, n), needed);
+        Check.due("needed", made.get().needed(cell, n), needed);
         int fewest = NONE;
         for (int size = 0; size <= people && fewest < 0; size++) {
             for (int set = 0; set <= all && fewest < 0; set++) {
-                if (Integer.bitCount(set) == size && levelOf(x, set, people, cell, n) >= 10) {
+                if (Integer.bitCount(set) == size && levelOf(made.get(), set, people, cell, n) >= 10) {
                     fewest = set;
                 }
             }
         }
-        Check.due("fewest", x.fewest(cell, n), fewest);
+        Check.due("fewest", made.get().fewest(cell, n), fewest);
     }
 
     private static void fitting(SpringOaths x, int person, int cell, int n) {
-        int years = Math.min(n, 4);
+        int years = Math.min(n, 3);
+        int[] told = new int[years];
+        int own = draw(100);
         x.sheet(0, draw(4), years);
-        int sure = draw(100);
-        x.sure(person, sure);
+        x.sure(person, own);
         for (int i = 0; i < years; i++) {
-            x.put(0, i, draw(3) == 0 ? -1 : x.level(cell, i + 1));
+            told[i] = draw(3) == 0 ? -1 : x.level(cell, i + 1);
+            x.put(0, i, told[i]);
         }
         int found = 0;
         int least = NONE;
@@ -417,24 +419,14 @@ public final class TriedTest {
             x.sure(person, v);
             boolean fits = true;
             for (int i = 0; i < years; i++) {
-                int told = x.item(0, sortOf(x), i);
-                fits &= told == -1 || told == x.level(cell, i + 1);
+                fits &= told[i] == -1 || told[i] == x.level(cell, i + 1);
             }
             found += fits ? 1 : 0;
             least = fits ? v : least;
         }
-        x.again();
+        x.sure(person, own);
         Check.due("fits, how many", x.fits(0, cell, person, 0), found);
         Check.due("fits, the least", x.fits(0, cell, person, 1), least);
         Check.holds("the one that it was told by fits", found > 0);
-    }
-
-    private static int sortOf(SpringOaths x) {
-        for (int sort = 0; sort < 4; sort++) {
-            if (x.item(0, sort, 0) != -13) {
-                return sort;
-            }
-        }
-        return -1;
     }
 }

@@ -15,7 +15,7 @@ public final class TwinTest {
         for (int i = 0; i < 200; i++) {
             acts();
         }
-        for (int i = 0; i < 300; i++) {
+        for (int i = 0; i < 500; i++) {
             years();
         }
         Check.end("TwinTest");
@@ -113,6 +113,7 @@ public final class TwinTest {
         Twin twin = new Twin();
         int people = draw(9);
         for (int i = 0; i < people; i++) {
+            // at the first three columns, where same() asks who wells
             int[] one = {draw(6), draw(10), draw(100), draw(4) * 8 + draw(3)};
             x.person(one[0], one[1], one[2], one[3]);
             twin.people.add(born(one[0], i, one[1], one[2], one[3]));
@@ -128,7 +129,8 @@ public final class TwinTest {
             twin.laws[law] = draw(most[law] + 1);
             x.set(law, twin.laws[law]);
         }
-        for (int i = 0; i < 8; i++) {
+        unchanging(x, twin);
+        for (int i = 0; i < 4; i++) {
             same(x, twin);
             if (draw(2) == 0) {
                 x.years(1);
@@ -142,19 +144,28 @@ public final class TwinTest {
         Check.due("z", x.seed(0), twin.z);
     }
 
+    private static void unchanging(SpringOaths x, Twin twin) {
+        for (int cell = 0; cell < 32; cell++) {
+            Check.due("lowest(" + cell + ")", x.lowest(cell), twin.lowest(cell));
+        }
+        for (Sworn one : twin.people) {
+            Check.due("of(" + one.n + ", 5)", x.of(one.n, 5), one.wins());
+            Check.due("loses(" + one.n + ")", x.loses(one.n), 1000 + one.loses());
+        }
+    }
+
     private static void same(SpringOaths x, Twin twin) {
         Check.due("year", x.state(0), twin.year);
         for (int cell = 0; cell < 32; cell++) {
             Check.due("cell(" + cell + ", 0)", x.cell(cell, 0), twin.waters[cell]);
-            Check.due("cell(" + cell + ", 3)", x.cell(cell, 3), twin.wellingAt(cell));
-            Check.due("cell(" + cell + ", 4)", x.cell(cell, 4), twin.pairsAt(cell));
-            Check.due("lowest(" + cell + ")", x.lowest(cell), twin.lowest(cell));
+            if (cell % 8 < 3) {
+                Check.due("cell(" + cell + ", 3)", x.cell(cell, 3), twin.wellingAt(cell));
+                Check.due("cell(" + cell + ", 4)", x.cell(cell, 4), twin.pairsAt(cell));
+            }
         }
         for (Sworn one : twin.people) {
             Check.due("of(" + one.n + ", 2)", x.of(one.n, 2), one.sure);
             Check.due("of(" + one.n + ", 4)", x.of(one.n, 4), one.wells(twin));
-            Check.due("of(" + one.n + ", 5)", x.of(one.n, 5), one.wins());
-            Check.due("loses(" + one.n + ")", x.loses(one.n), 1000 + one.loses());
         }
     }
 

@@ -1,18 +1,23 @@
 import java.lang.reflect.InvocationTargetException;
 import java.lang.reflect.Method;
 import java.lang.reflect.Modifier;
+import java.util.ArrayList;
 import java.util.Arrays;
 import java.util.Comparator;
+import java.util.List;
 import java.util.Set;
 
-/** Every call with any numbers in many states: none throws, and a refused one changes nothing. */
+/**
+ * Every call with any numbers in many states: none throws, and those that are refused change nothing: an object
+ * that is never asked them is the same in the end.
+ */
 public final class WildTest {
     private static final int[] WILD = {0, 1, 2, 3, 4, 5, 6, 7, 8, 9, 10, 11, 13, 20, 30, 31, 32, 33, 39, 40, 41, 50,
         60, 61, 99, 100, 200, -1, -2, -15, Integer.MAX_VALUE, Integer.MAX_VALUE - 1, Integer.MIN_VALUE,
         Integer.MIN_VALUE + 1, 1 << 30, 0x55555555};
 
-    /** What these answer may be below 0 without being a refusal. */
-    private static final Set<String> FREE = Set.of("seed", "item", "row", "alterRow", "act", "trace");
+    /** Below 0, these may not be refused, or what is refused changes something: the TAPE, THE TRACE. */
+    private static final Set<String> FREE = Set.of("seed", "item", "row", "alterRow", "act", "trace", "moor");
 
     private static final String[] TEXTS = {"sworn at 3;", "height 3 is 9;", "water 3 is 9", "bog", "drink 100;", "",
         "dowser at 7 sure 3 sense 9;expert at 7;", "9", "\u00ff", "sworn at 99999999999999999999999999;"};
@@ -24,12 +29,8 @@ public final class WildTest {
             .filter(method -> Modifier.isPublic(method.getModifiers()))
             .sorted(Comparator.comparing(Method::getName))
             .toArray(Method[]::new);
-        for (int run = 0; run < 60; run++) {
-            SpringOaths x = new SpringOaths();
-            for (int i = 0; i < 512; i++) {
-                call(x, calls[draw(calls.length)], draw(2) == 0);
-                settle(x);
-            }
+        for (int run = 0; run < 3000; run++) {
+            run(calls);
         }
         Check.end("WildTest");
     }
@@ -39,88 +40,62 @@ public final class WildTest {
         return (drawn >>> 16) % below;
     }
 
-    private static void call(SpringOaths x, Method method, boolean wild) throws IllegalAccessException {
+    private static void run(Method[] calls) throws IllegalAccessException {
+        SpringOaths asked = new SpringOaths();
+        SpringOaths spared = new SpringOaths();
+        List<String> refused = new ArrayList<>();
+        for (int i = 0; i < 40; i++) {
+            settle(asked, spared);
+            Method method = calls[draw(calls.length)];
+            Object[] values = numbers(method, draw(2) == 0);
+            String name = method.getName() + Arrays.toString(values);
+            long answer = call(asked, method, values, name);
+            if (answer < 0 && !FREE.contains(method.getName())) {
+                refused.add(name);
+            } else {
+                Check.due(name, call(spared, method, values, name), answer);
+            }
+        }
+        Check.holds("nothing is changed by any of " + refused, Seen.all(asked).equals(Seen.all(spared)));
+    }
+
+    private static Object[] numbers(Method method, boolean wild) {
         Object[] values = new Object[method.getParameterCount()];
         for (int i = 0; i < values.length; i++) {
             int v = wild ? WILD[draw(WILD.length)] : draw(10);
-            if (method.getParameterTypes()[i] == long.class) {
-                values[i] = (long) v * 0x123456789L;
-            } else {
-                values[i] = v;
-            }
+            values[i] = method.getParameterTypes()[i] == long.class ? (Object) (v * 0x123456789L) : (Object) v;
         }
-        String name = method.getName() + Arrays.toString(values);
-        int[] before = seen(x);
+        return values;
+    }
+
+    private static long call(SpringOaths x, Method method, Object[] values, String name) throws IllegalAccessException {
         try {
-            long answer = ((Number) method.invoke(x, values)).longValue();
-            if (answer < 0 && !FREE.contains(method.getName())) {
-                int[] after = seen(x);
-                if (method.getName().equals("moor")) {
-                    before[0] = 0;
-                }
-                Check.holds("a refused " + name + " changes nothing", Arrays.equals(before, after));
-            } else {
-                Check.holds(name + " answers", true);
-            }
+            return ((Number) method.invoke(x, values)).longValue();
         } catch (InvocationTargetException thrown) {
             Check.holds(name + " does not throw " + thrown.getCause(), false);
+            return 0;
         }
     }
 
     /** Keeps something there to be asked about. */
-    private static void settle(SpringOaths x) {
-        int choice = draw(40);
-        if (choice == 0) {
-            Check.feed(x, TEXTS[draw(TEXTS.length)]);
-        } else if (choice == 1) {
-            x.prove(0, 1 + draw(10));
-        } else if (choice < 5) {
-            x.person(draw(6), draw(10), draw(100), draw(32));
-        } else if (choice < 8) {
-            x.sheet(draw(4), draw(4), draw(41));
-        } else if (choice < 10) {
-            x.shelf(draw(4), draw(2), draw(4));
-        }
-    }
-
-    private static int[] seen(SpringOaths x) {
-        int[] seen = new int[800];
-        int n = 0;
-        seen[n++] = x.many(5);
-        seen[n++] = x.seed(0);
-        x.seed(seen[1]);
-        for (int what = 0; what < 7; what++) {
-            seen[n++] = what == 5 ? 0 : x.many(what);
-        }
-        for (int what = 0; what < 5; what++) {
-            seen[n++] = x.state(what);
-        }
-        for (int i = 0; i < 4; i++) {
-            seen[n++] = x.lawOf(i);
-            for (int as = 0; as < 14; as++) {
-                seen[n++] = x.taken(i, as);
-            }
-            for (int k = 0; k < 41; k++) {
-                for (int sort = 0; sort < 4; sort++) {
-                    seen[700 + i] = seen[700 + i] * 31 + x.item(i, sort, k);
-                }
+    private static void settle(SpringOaths one, SpringOaths other) {
+        int choice = draw(16);
+        int a = draw(4);
+        int b = draw(4);
+        int c = draw(16);
+        int d = draw(100);
+        for (SpringOaths x : List.of(one, other)) {
+            if (choice == 0) {
+                Check.feed(x, TEXTS[d % TEXTS.length]);
+            } else if (choice == 1) {
+                x.prove(0, 1 + d % 10);
+            } else if (choice < 6) {
+                x.person(c % 6, c % 10, d, d % 32);
+            } else if (choice < 8) {
+                x.sheet(a, b, c);
+            } else if (choice < 10) {
+                x.shelf(a, d % 2, b);
             }
         }
-        for (int person = 0; person < 8; person++) {
-            for (int what = 0; what < 8; what++) {
-                seen[n++] = x.of(person, what);
-            }
-        }
-        for (int cell = 0; cell < 32; cell++) {
-            seen[n++] = x.cell(cell, 0);
-            seen[n++] = x.cell(cell, 1);
-            seen[n++] = x.lowest(cell);
-        }
-        for (int i = 0; i < 30; i++) {
-            seen[n++] = x.row(i, i % 3);
-            seen[n++] = x.row(i / 3, i % 3);
-            seen[n++] = x.trace(i);
-        }
-        return seen;
     }
 }
