@@ -121,7 +121,19 @@ public final class FaceTest {
         while (calls.find()) {
             Check.holds(calls.group() + " is of the library", library.contains(calls.group()));
         }
+        makes(code);
         methods(code);
+    }
+
+    /** What is made is made with the object: by a field that is final, or by the constructor. */
+    private static void makes(String code) {
+        String constructor = code.replaceAll("(?s).*?( +public SpringOaths\\(\\) \\{.*?\n    \\}\n).*", "$1");
+        for (String line : code.replace(constructor, "").split("\n")) {
+            Check.holds("made with the object: " + line, !line.matches(".*\\bnew\\b.*") || line.matches(" +final .*= new .*"));
+            Check.holds("a constant row: " + line, !line.matches(".*\\{.*\\d.*\\};") || line.matches(" +private static final int\\[\\] .*"));
+        }
+        Check.holds("nothing is copied", !Pattern.compile("\\bclone\\b|\\bcopyOf|\\bsubstring\\b|\\btoCharArray\\b").matcher(code).find());
+        Check.holds("no texts are joined", !code.contains("\" +") && !code.contains("+ \""));
     }
 
     private static void methods(String code) {

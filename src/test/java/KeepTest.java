@@ -5,6 +5,7 @@ public final class KeepTest {
         keepAll();
         keptStays();
         notKept();
+        eachSheetStays();
         Check.end("KeepTest");
     }
 
@@ -99,5 +100,25 @@ public final class KeepTest {
         Check.due("shelf", x.taken(0, 11), 7);
         Check.due("trace", x.many(6), 2);
         Check.due("trace", x.trace(0), 11);
+    }
+
+    /** again() gives back no SHEET and no SHELF: all four of each are as they are. */
+    private static void eachSheetStays() {
+        SpringOaths x = Moors.full();
+        x.sheet(3, -1, 0);
+        for (int i = 0; i < 3; i++) {
+            x.put(i, 1, 20 + i);
+            x.shelf(3 - i, 1, i);
+        }
+        x.shelf(0, 0, 2);
+        Check.due("again()", x.again(), 8);
+        for (int i = 0; i < 3; i++) {
+            Check.due("item(" + i + ", " + i + ", 1)", x.item(i, i, 1), 20 + i);
+        }
+        Check.due("missing", x.item(3, 3, 0), -11);
+        Check.due("taken(0, 2)", x.taken(0, 2), 2);
+        Check.due("taken(1, 12)", x.taken(1, 12), 3);
+        Check.due("taken(2, 11)", x.taken(2, 11), 8);
+        Check.due("taken(3, 10)", x.taken(3, 10), 40);
     }
 }

@@ -24,6 +24,7 @@ public final class TapeEdgeTest {
         asAtFirst();
         zStays();
         noRows();
+        theRestStays();
         Check.end("TapeEdgeTest");
     }
 
@@ -401,5 +402,26 @@ public final class TapeEdgeTest {
         Check.due("no row", x.row(0, 0), -9);
         x.person(0, 0, 0, 0);
         Check.due("all is right, as there are none", x.judge(0), 0);
+    }
+
+    /** "THE TAPE becomes all" of the moor alone: every SHEET, every SHELF with a row, THE TRACE stay, item by item. */
+    private static void theRestStays() {
+        SpringOaths x = Moors.full();
+        int[] sizes = {40, 8, 3, 0};
+        for (int i = 0; i < 4; i++) {
+            x.shelf(i, 1, i);
+        }
+        int bodies = x.many(6);
+        Check.due("moor", Check.moor(x, "sworn at 3;"), 1);
+        for (int sheet = 0; sheet < 4; sheet++) {
+            for (int i = 0; i < sizes[sheet]; i++) {
+                int due = i == 0 ? -7 : i == sizes[sheet] - 1 ? 100 + sheet : 0;
+                Check.due("item(" + sheet + ", " + sheet + ", " + i + ")", x.item(sheet, sheet, i), due);
+            }
+            Check.due("behind the last", x.item(sheet, sheet, sizes[sheet]), -12);
+            Check.due("taken(" + sheet + ", " + (10 + sheet) + ")", x.taken(sheet, 10 + sheet), sizes[sheet]);
+        }
+        Check.holds("there was a trace", bodies > 0);
+        Check.due("many(6)", x.many(6), bodies);
     }
 }

@@ -1,84 +1,116 @@
+import java.lang.reflect.InvocationTargetException;
+import java.lang.reflect.Method;
+import java.lang.reflect.Modifier;
 import java.util.ArrayList;
+import java.util.Arrays;
+import java.util.HashMap;
+import java.util.HashSet;
 import java.util.List;
+import java.util.Map;
+import java.util.Set;
 
 /**
- * Promises 45 and 46, and YEARS once more: told and random moors beside a twin that is written as the document
- * tells it, with a class for each KIND and super for super.
+ * All promises together: long runs of all calls, by draws, each answered by SpringOaths as by the Twin, which is
+ * written from the document once more.
  */
 public final class TwinTest {
-    private static int drawn = 11;
+    private static final int RUNS = 300;
+    private static final int TEXTS = 1000;
+    private static final int CALLS = 430;
+    private static final int CALLS_PROMISED = 512;
+    private static final int WHO = -101;
+    private static final int WHERE = -102;
+    private static final int ROW = -103;
 
-    public static void main(String[] args) {
-        actRefuses();
-        partedByZero();
-        traceIsOfTheLatest();
-        for (int i = 0; i < 200; i++) {
-            acts();
+    /** What each call takes: a least and a most for each number, or a mark. */
+    private static final Map<String, int[]> TAKES = new HashMap<>();
+
+    static {
+        TAKES.put("moor", new int[] {});
+        TAKES.put("set", new int[] {0, 3, 0, 9});
+        TAKES.put("lawOf", new int[] {0, 3});
+        TAKES.put("person", new int[] {0, 5, 0, 9, 0, 99, WHERE, 0});
+        TAKES.put("of", new int[] {WHO, 0, 0, 7});
+        TAKES.put("loses", new int[] {WHO, 0});
+        TAKES.put("mind", new int[] {WHO, 0, 0, 5, 0, 9});
+        TAKES.put("sure", new int[] {WHO, 0, 0, 99});
+        TAKES.put("bring", new int[] {WHO, 0, WHERE, 0});
+        TAKES.put("cell", new int[] {WHERE, 0, 0, 4});
+        TAKES.put("lowest", new int[] {WHERE, 0});
+        TAKES.put("water", new int[] {WHERE, 0, 0, 99});
+        TAKES.put("height", new int[] {WHERE, 0, 0, 9});
+        TAKES.put("wets", new int[] {0, 2});
+        TAKES.put("years", new int[] {1, 2});
+        TAKES.put("seed", new int[] {-100000, 100000});
+        TAKES.put("year", new int[] {});
+        TAKES.put("revel", new int[] {1, 30});
+        TAKES.put("state", new int[] {0, 4});
+        TAKES.put("level", new int[] {WHERE, 0, 0, 60});
+        TAKES.put("damp", new int[] {WHERE, 0});
+        TAKES.put("loss", new int[] {WHO, 0});
+        TAKES.put("drowned", new int[] {});
+        TAKES.put("whereFor", new int[] {WHO, 0, WHERE, 0, 1, 20});
+        TAKES.put("kindFor", new int[] {WHO, 0, WHERE, 0, 1, 20});
+        TAKES.put("annoyed", new int[] {WHO, 0, WHERE, 0, 1, 20});
+        TAKES.put("needed", new int[] {WHERE, 0, 1, 20});
+        TAKES.put("fewest", new int[] {WHERE, 0, 1, 20});
+        TAKES.put("ends", new int[] {WHERE, 0});
+        TAKES.put("fits", new int[] {0, 3, WHERE, 0, WHO, 0, 0, 1});
+        TAKES.put("odds", new int[] {0, 8, 0, 8, 0, 1});
+        TAKES.put("hope", new int[] {0, 99, 0, 1});
+        TAKES.put("prove", new int[] {WHO, 0, 1, 10});
+        TAKES.put("row", new int[] {ROW, 0, 0, 2});
+        TAKES.put("alterRow", new int[] {ROW, 0, 0, 2, 0, 99});
+        TAKES.put("judge", new int[] {WHO, 0});
+        TAKES.put("minds", new int[] {0, 3, 0, 6, WHO, 0, 0, 4});
+        TAKES.put("sheet", new int[] {0, 3, -1, 3, 0, 8});
+        TAKES.put("put", new int[] {0, 3, 0, 7, -200, 200});
+        TAKES.put("item", new int[] {0, 3, 0, 3, 0, 7});
+        TAKES.put("shelf", new int[] {0, 3, 0, 2, 0, 4});
+        TAKES.put("taken", new int[] {0, 3, 0, 13});
+        TAKES.put("act", new int[] {0, 3, 0, 3, -1000, 1000});
+        TAKES.put("trace", new int[] {0, 11});
+        TAKES.put("many", new int[] {0, 6});
+        TAKES.put("keep", new int[] {});
+        TAKES.put("again", new int[] {});
+    }
+
+    /** Those that take most away, and those that take longest, are asked less often. */
+    private static final Set<String> SELDOM =
+        Set.of("moor", "again", "fewest", "whereFor", "seed", "years");
+
+    private static final int[] WILD = {-1, -2, 32, 33, 8, 60, 61, 100, 50, 51, 40, 41, 31, 256, 32768, 1 << 30,
+        Integer.MAX_VALUE, Integer.MIN_VALUE, Integer.MIN_VALUE + 1, -11, -3};
+
+    private static int drawn = 7;
+
+    private final SpringOaths x = new SpringOaths();
+    private final Twin twin = new Twin();
+    private final List<String> told = new ArrayList<>();
+    private final int corner = draw(3) * 8 + draw(7);
+    private final List<String> calls;
+    private boolean same = true;
+
+    private TwinTest(List<String> calls) {
+        this.calls = calls;
+    }
+
+    public static void main(String[] args) throws ReflectiveOperationException {
+        List<String> calls = new ArrayList<>();
+        for (Method method : SpringOaths.class.getDeclaredMethods()) {
+            if (Modifier.isPublic(method.getModifiers()) && !method.getName().equals("feed")) {
+                calls.add(method.getName());
+            }
         }
-        for (int i = 0; i < 500; i++) {
-            years();
+        calls.sort(null);
+        Check.holds("all calls are known", TAKES.keySet().equals(new HashSet<>(calls)));
+        for (int run = 0; run < RUNS; run++) {
+            new TwinTest(calls).run();
+        }
+        for (int i = 0; i < TEXTS; i++) {
+            new TwinTest(calls).texts();
         }
         Check.end("TwinTest");
-    }
-
-    private static void actRefuses() {
-        SpringOaths x = new SpringOaths();
-        x.person(2, 4, 30, 0);
-        x.sheet(0, 0, 3);
-        x.shelf(0, 0, 0);
-        x.shelf(1, 1, 0);
-        int[][] wrong = {{4, 0}, {-1, 0}, {0, 4}, {0, -1}, {1, 0}, {2, 0}};
-        for (int[] w : wrong) {
-            Check.due("act", x.act(0, 3, 5), (5 - 4 + 1 ^ 9) - 0);
-            Check.due("many(6)", x.many(6), 6);
-            Check.due("act(" + w[0] + ", " + w[1] + ")", x.act(w[0], w[1], 5), 0);
-            Check.due("no trace", x.many(6), 0);
-            Check.due("no trace", x.trace(0), SpringOaths.NONE);
-        }
-        Check.moor(x, "");
-        Check.due("one who is gone", x.act(0, 0, 5), 0);
-    }
-
-    private static void partedByZero() {
-        SpringOaths x = new SpringOaths();
-        x.person(0, 0, 0, 0);
-        x.person(5, 1, 0, 0);
-        x.person(4, 2, 0, 0);
-        x.person(3, 3, 0, 0);
-        int[][] traces = {{12}, {61, 12}, {12}, {50, 12}};
-        for (int i = 0; i < 4; i++) {
-            x.shelf(i, 0, i);
-            Check.due("act(" + i + ", 2, 7)", x.act(i, 2, 7), -15);
-            trace(x, traces[i]);
-        }
-        Check.due("signs of the dowser", x.act(2, 3, 7), -15);
-        trace(x, new int[] {31, 13, 41, 11, 40, 30, 10, 40, 30, 10, 12});
-        x.mind(1, 5, 2);
-        Check.due("the least by -1", x.act(1, 2, 1), 1 / (2 - 1) + 1 + 3);
-        x.mind(2, 2, 1);
-        Check.due("the least by -1", x.act(2, 2, Integer.MIN_VALUE), Integer.MIN_VALUE);
-    }
-
-    private static void trace(SpringOaths x, int[] want) {
-        Check.due("many(6)", x.many(6), want.length);
-        for (int i = 0; i < want.length; i++) {
-            Check.due("trace(" + i + ")", x.trace(i), want[i]);
-        }
-        Check.due("behind the last", x.trace(want.length), SpringOaths.NONE);
-        Check.due("trace(-1)", x.trace(-1), SpringOaths.NONE);
-    }
-
-    private static void traceIsOfTheLatest() {
-        SpringOaths x = new SpringOaths();
-        Check.due("at first", x.trace(0), SpringOaths.NONE);
-        x.person(4, 5, 0, 0);
-        x.shelf(0, 0, 0);
-        x.act(0, 3, 7);
-        Check.due("many(6)", x.many(6), 11);
-        Check.due("trace(30)", x.trace(30), SpringOaths.NONE);
-        Check.due("trace(max)", x.trace(Integer.MAX_VALUE), SpringOaths.NONE);
-        x.act(0, 0, 7);
-        trace(x, new int[] {40, 30, 10});
     }
 
     private static int draw(int below) {
@@ -86,363 +118,201 @@ public final class TwinTest {
         return (drawn >>> 16) % below;
     }
 
-    private static void acts() {
-        SpringOaths x = new SpringOaths();
-        List<Sworn> twins = new ArrayList<>();
-        for (int i = 0; i < 8; i++) {
-            int kind = draw(6);
-            int sense = draw(10);
-            x.person(kind, sense, 50, 0);
-            twins.add(born(kind, i, sense, 50, 0));
+    private void run() throws ReflectiveOperationException {
+        settle();
+        while (told.size() < CALLS && same) {
+            some();
         }
-        for (int i = 0; i < 8; i++) {
-            int act = draw(4);
-            int number = draw(3) == 0 ? draw(65536) * 65521 : draw(100) - 50;
-            x.shelf(i % 4, 0, i);
-            Sworn twin = twins.get(i);
-            Check.due("act", x.act(i % 4, act, number), twin.act(act, number));
-            Check.due("many(6)", x.many(6), twin.trace.size());
-            for (int k = 0; k < twin.trace.size(); k++) {
-                Check.due("trace(" + k + ")", x.trace(k), twin.trace.get(k));
+        Check.holds("no more calls than are promised", told.size() <= CALLS_PROMISED);
+    }
+
+    private void texts() throws ReflectiveOperationException {
+        text();
+        for (int what = 0; what < 6; what++) {
+            call("many", what);
+        }
+        for (int what = 0; what < 5; what++) {
+            call("state", what);
+        }
+        for (int law = 0; law < 4; law++) {
+            call("lawOf", law);
+        }
+        for (int cell = 0; cell < 32; cell++) {
+            call("cell", cell, 0);
+            call("cell", cell, 1);
+        }
+        for (int person = 0; person < twin.many(0); person++) {
+            for (int what = 0; what < 4; what++) {
+                call("of", person, what);
             }
         }
     }
 
-    private static void years() {
-        SpringOaths x = new SpringOaths();
-        Twin twin = new Twin();
+    /** Heights and people, some LAWS, some rows, so that there is much to ask. */
+    private void settle() throws ReflectiveOperationException {
+        for (int i = 0; i < 12; i++) {
+            call("height", where(), draw(10));
+        }
         int people = draw(9);
         for (int i = 0; i < people; i++) {
-            // at the first three columns, where same() asks who wells
-            int[] one = {draw(6), draw(10), draw(100), draw(4) * 8 + draw(3)};
-            x.person(one[0], one[1], one[2], one[3]);
-            twin.people.add(born(one[0], i, one[1], one[2], one[3]));
+            call("person", draw(6), draw(10), draw(100), where());
         }
-        for (int cell = 0; cell < 32; cell++) {
-            twin.heights[cell] = draw(10);
-            twin.waters[cell] = draw(3) == 0 ? draw(100) : 0;
-            x.height(cell, twin.heights[cell]);
-            x.water(cell, twin.waters[cell]);
-        }
-        int[] most = {9, 9, 50, 99};
-        for (int law = 0; law < 4; law++) {
-            twin.laws[law] = draw(most[law] + 1);
-            x.set(law, twin.laws[law]);
-        }
-        unchanging(x, twin);
+        call("set", 2, draw(51));
+        call("set", 3, draw(100));
         for (int i = 0; i < 4; i++) {
-            same(x, twin);
-            if (draw(2) == 0) {
-                x.years(1);
-                twin.year();
-            } else {
-                x.year();
-                twin.yearByDraws();
-            }
-        }
-        same(x, twin);
-        Check.due("z", x.seed(0), twin.z);
-    }
-
-    private static void unchanging(SpringOaths x, Twin twin) {
-        for (int cell = 0; cell < 32; cell++) {
-            Check.due("lowest(" + cell + ")", x.lowest(cell), twin.lowest(cell));
-        }
-        for (Sworn one : twin.people) {
-            Check.due("of(" + one.n + ", 5)", x.of(one.n, 5), one.wins());
-            Check.due("loses(" + one.n + ")", x.loses(one.n), 1000 + one.loses());
+            call("sheet", i, draw(4), draw(9));
+            call("shelf", i, draw(3), i);
         }
     }
 
-    private static void same(SpringOaths x, Twin twin) {
-        Check.due("year", x.state(0), twin.year);
-        for (int cell = 0; cell < 32; cell++) {
-            Check.due("cell(" + cell + ", 0)", x.cell(cell, 0), twin.waters[cell]);
-            if (cell % 8 < 3) {
-                Check.due("cell(" + cell + ", 3)", x.cell(cell, 3), twin.wellingAt(cell));
-                Check.due("cell(" + cell + ", 4)", x.cell(cell, 4), twin.pairsAt(cell));
+    private void some() throws ReflectiveOperationException {
+        int choice = draw(60);
+        if (choice == 0) {
+            if (draw(4) == 0) {
+                text();
             }
-        }
-        for (Sworn one : twin.people) {
-            Check.due("of(" + one.n + ", 2)", x.of(one.n, 2), one.sure);
-            Check.due("of(" + one.n + ", 4)", x.of(one.n, 4), one.wells(twin));
-        }
-    }
-
-    private static Sworn born(int kind, int n, int sense, int sure, int at) {
-        Sworn one = switch (kind) {
-            case 1 -> new Engineer();
-            case 2 -> new Doubter();
-            case 3 -> new Expert();
-            case 4 -> new Dowser();
-            case 5 -> new Drunkard();
-            default -> new Sworn();
-        };
-        one.n = n;
-        one.a = sense;
-        one.sure = sure;
-        one.at = at;
-        return one;
-    }
-
-    private static final class Twin {
-        final int[] laws = new int[4];
-        final int[] heights = new int[32];
-        final int[] waters = new int[32];
-        final List<Sworn> people = new ArrayList<>();
-        int year = 0;
-        int z = 1;
-
-        int lowest(int cell) {
-            int best = -3;
-            for (int other = 0; other < 32; other++) {
-                boolean beside = Math.abs(other / 8 - cell / 8) + Math.abs(other % 8 - cell % 8) == 1;
-                if (beside && heights[other] < heights[cell] && (best < 0 || heights[other] < heights[best])) {
-                    best = other;
-                }
-            }
-            return best;
-        }
-
-        int wellingAt(int cell) {
-            return people.stream().filter(one -> one.at == cell).mapToInt(one -> one.wells(this)).sum();
-        }
-
-        int pairsAt(int cell) {
-            int pairs = 0;
-            for (Sworn one : people) {
-                for (Sworn other : people) {
-                    boolean here = one.n < other.n && one.at == cell && other.at == cell;
-                    if (here && one.sure > 0 && other.sure > 0 && Math.abs(one.sure - other.sure) >= 30) {
-                        pairs++;
-                    }
-                }
-            }
-            return pairs;
-        }
-
-        void year() {
-            int[] more = new int[32];
-            for (int cell = 0; cell < 32; cell++) {
-                more[cell] = wellingAt(cell) + laws[1] * pairsAt(cell);
-            }
-            for (int cell = 0; cell < 32; cell++) {
-                waters[cell] = Math.min(99, waters[cell] + more[cell]);
-            }
-            for (int cell = 0; cell < 32; cell++) {
-                int to = lowest(cell);
-                if (to >= 0 && waters[cell] > laws[2]) {
-                    int half = (waters[cell] - laws[2]) / 2;
-                    waters[cell] -= half;
-                    waters[to] = Math.min(99, waters[to] + half);
-                }
-            }
-            for (Sworn one : people) {
-                if (one.sure > 0) {
-                    int sure = waters[one.at] >= 10 ? one.sure - one.loses() : one.sure + one.wins();
-                    one.sure = sure < 0 ? 0 : sure > 99 ? 99 : sure;
-                }
-            }
-            year++;
-        }
-
-        int draw() {
-            z = z * 1103515245 + 12345;
-            return z >>> 16;
-        }
-
-        void yearByDraws() {
-            if (!people.isEmpty()) {
-                Sworn one = people.get(draw() % people.size());
-                if (draw() % 100 < laws[3]) {
-                    one.sure = one.sure / 2;
-                }
-            }
-            year();
-        }
-    }
-
-    private static class Sworn {
-        final List<Integer> trace = new ArrayList<>();
-        int n;
-        int a;
-        int sure;
-        int at;
-
-        int wells(Twin moor) {
-            return sure >= 50 ? a : 0;
-        }
-
-        int loses() {
-            return 10;
-        }
-
-        int wins() {
-            return 3;
-        }
-
-        int swears(int x) {
-            trace.add(10);
-            return x + n * 3;
-        }
-
-        int doubts(int x) {
-            trace.add(11);
-            return swears(x) - a;
-        }
-
-        int parts(int x) {
-            trace.add(12);
-            return x / (a - n);
-        }
-
-        int signs(int x) {
-            trace.add(13);
-            return doubts(x) ^ 9;
-        }
-
-        int act(int act, int x) {
-            trace.clear();
-            try {
-                return switch (act) {
-                    case 0 -> swears(x);
-                    case 1 -> doubts(x);
-                    case 2 -> parts(x);
-                    default -> signs(x);
-                };
-            } catch (ArithmeticException byZero) {
-                return -15;
+        } else if (choice == 1) {
+            fits();
+        } else if (choice == 2) {
+            act();
+        } else if (choice == 3) {
+            rows();
+        } else if (choice < 6) {
+            items();
+        } else {
+            String name = calls.get(draw(calls.size()));
+            if (!SELDOM.contains(name) || draw(name.equals("moor") ? 40 : 4) == 0) {
+                call(name, numbers(TAKES.get(name)));
             }
         }
     }
 
-    private static class Engineer extends Sworn {
-        @Override
-        int wells(Twin moor) {
-            return super.wells(moor) * 2;
+    private int[] numbers(int[] takes) {
+        int[] numbers = new int[takes.length / 2];
+        for (int i = 0; i < numbers.length; i++) {
+            numbers[i] = number(takes[2 * i], takes[2 * i + 1]);
         }
+        return numbers;
+    }
 
-        @Override
-        int loses() {
-            return super.loses() / 2;
+    private int number(int least, int most) {
+        if (draw(40) == 0) {
+            return WILD[draw(WILD.length)];
         }
-
-        @Override
-        int wins() {
-            return super.wins() + 2;
-        }
-
-        @Override
-        int doubts(int x) {
-            trace.add(20);
-            return super.doubts(x) * 2;
+        switch (least) {
+            case WHO: return draw(Math.max(1, twin.many(0)));
+            case WHERE: return where();
+            case ROW: return draw(twin.many(4) + 1);
+            default: return least + draw(most - least + 1);
         }
     }
 
-    private static class Doubter extends Sworn {
-        @Override
-        int wells(Twin moor) {
-            int wells = super.wells(moor);
-            return wells == 0 && sure > 0 ? 1 : wells;
-        }
+    /** Mostly one of four cells that lie together, so that people meet. */
+    private int where() {
+        return draw(4) == 0 ? draw(32) : corner + draw(2) * 8 + draw(2);
+    }
 
-        @Override
-        int loses() {
-            return super.loses() + a;
+    private void text() throws ReflectiveOperationException {
+        String text = Texts.drawn(TwinTest::draw);
+        for (int from = 0; from < text.length(); from += 8) {
+            int n = Math.min(8, text.length() - from);
+            long eight = draw(2) == 0 ? 0 : -1L << 8 * n % 64;
+            for (int i = n - 1; i >= 0; i--) {
+                eight = eight << 8 | text.charAt(from + i) & 255;
+            }
+            feed(eight, n);
         }
-
-        @Override
-        int wins() {
-            return super.wins() - 2;
-        }
-
-        @Override
-        int swears(int x) {
-            trace.add(30);
-            return super.swears(x) + 1;
-        }
-
-        @Override
-        int signs(int x) {
-            trace.add(31);
-            return super.signs(x) - parts(n);
+        if (draw(8) > 0) {
+            call("moor");
+            call("many", 0);
+            if (twin.many(0) == 0) {
+                settle();
+            }
         }
     }
 
-    private static class Expert extends Engineer {
-        @Override
-        int wells(Twin moor) {
-            return super.wells(moor) + moor.laws[0];
-        }
+    private void feed(long eight, int n) {
+        told.add("feed(" + eight + ", " + n + ")");
+        same(x.feed(eight, n), twin.feed(eight, n));
+    }
 
-        @Override
-        int loses() {
-            return 0;
+    /** A SHEET of what WATER will be, or nearly so. */
+    private void fits() throws ReflectiveOperationException {
+        int cell = where();
+        int sheet = draw(4);
+        int n = draw(5);
+        call("sheet", sheet, draw(4), n);
+        for (int i = 0; i < n; i++) {
+            call("put", sheet, i, draw(4) == 0 ? -1 : twin.level(cell, i + 1) + draw(12) / 11);
         }
-
-        @Override
-        int parts(int x) {
-            trace.add(50);
-            return super.parts(x * 4) - a;
-        }
-
-        @Override
-        int swears(int x) {
-            trace.add(51);
-            return super.swears(x) ^ n;
+        for (int what = 0; what < 2; what++) {
+            call("fits", sheet, cell, draw(Math.max(1, twin.many(0))), what);
         }
     }
 
-    private static class Dowser extends Doubter {
-        @Override
-        int wells(Twin moor) {
-            return super.wells(moor) / 2;
-        }
-
-        @Override
-        int loses() {
-            return super.loses() - 15;
-        }
-
-        @Override
-        int swears(int x) {
-            trace.add(40);
-            return 0 - super.swears(x);
-        }
-
-        @Override
-        int doubts(int x) {
-            trace.add(41);
-            return super.doubts(x) + swears(a);
+    private void act() throws ReflectiveOperationException {
+        int shelf = draw(4);
+        call("shelf", shelf, 0, draw(Math.max(1, twin.many(0))));
+        call("act", shelf, draw(4), draw(3) == 0 ? draw(65536) * 65521 : draw(100) - 50);
+        call("many", 6);
+        int bodies = twin.many(6);
+        for (int i = 0; i <= bodies; i++) {
+            call("trace", i);
         }
     }
 
-    private static class Drunkard extends Sworn {
-        @Override
-        int wells(Twin moor) {
-            return moor.year % 2 == 0 ? super.wells(moor) : 0;
+    /** Of a SHEET of a told sort, so that few are refused for another one. */
+    private void items() throws ReflectiveOperationException {
+        int sheet = draw(4);
+        int sort = draw(3) == 0 ? draw(4) : 0;
+        int n = 1 + draw(9);
+        call("sheet", sheet, sort, n);
+        for (int i = 0; i < n; i++) {
+            call("put", sheet, i, draw(2) == 0 ? draw(100) : draw(65536) * 65521);
+            call("item", sheet, sort, i);
         }
-
-        @Override
-        int loses() {
-            return super.loses() * 3;
+        call("minds", sheet, draw(n + 2), draw(Math.max(1, twin.many(0))), draw(4));
+        call("shelf", draw(4), 1, sheet);
+        for (int shelf = 0; shelf < 4; shelf++) {
+            call("taken", shelf, draw(2) == 0 ? 10 + sort : draw(6));
         }
+    }
 
-        @Override
-        int wins() {
-            return 0;
+    private void rows() throws ReflectiveOperationException {
+        int one = draw(Math.max(1, twin.many(0)));
+        call("prove", one, 1 + draw(3));
+        call("judge", draw(Math.max(1, twin.many(0))));
+        int rows = twin.many(4);
+        if (draw(2) == 0) {
+            int i = draw(rows + 1);
+            int what = draw(3);
+            call("alterRow", i, what, twin.row(i, what) + draw(3) / 2);
         }
+        call("judge", one);
+    }
 
-        @Override
-        int signs(int x) {
-            trace.add(60);
-            return 50 - super.signs(x);
+    private void call(String name, int... numbers) throws ReflectiveOperationException {
+        told.add(name + Arrays.toString(numbers));
+        same(answer(x, name, numbers), answer(twin, name, numbers));
+    }
+
+    private long answer(Object of, String name, int[] numbers) throws ReflectiveOperationException {
+        Class<?>[] types = new Class<?>[numbers.length];
+        Arrays.fill(types, int.class);
+        Method method = of.getClass().getMethod(name, types);
+        method.setAccessible(true);
+        try {
+            return ((Number) method.invoke(of, Arrays.stream(numbers).boxed().toArray())).longValue();
+        } catch (InvocationTargetException thrown) {
+            throw new IllegalStateException("after " + told, thrown);
         }
+    }
 
-        @Override
-        int parts(int x) {
-            trace.add(61);
-            return super.parts(x) + swears(n);
+    private void same(long got, long want) {
+        Check.due(told.get(told.size() - 1), got, want);
+        if (got != want && same) {
+            same = false;
+            System.out.println("behind " + told);
         }
     }
 }
